@@ -87,6 +87,19 @@ public final class FaceTest {
         check.due("LETTERS", 0, () -> Letterforge.LETTERS);
         check.due("PAIRS", 1, () -> Letterforge.PAIRS);
 
+        Set<String> faceNames = new TreeSet<>();
+        for (String method : METHODS) {
+            faceNames.add(method.substring(method.indexOf(' ') + 1, method.indexOf('(')));
+        }
+        for (Class<?> inner : Letterforge.class.getDeclaredClasses()) {
+            check.due(inner + " is static", true, () -> Modifier.isStatic(inner.getModifiers()));
+            check.due(inner + " is seen", false,
+                    () -> Modifier.isPublic(inner.getModifiers()) || Modifier.isProtected(inner.getModifiers()));
+            for (Method method : inner.getDeclaredMethods()) {
+                check.due(method + " has a name of the face", false, () -> faceNames.contains(method.getName()));
+            }
+        }
+
         Constructor<?>[] constructors = Letterforge.class.getDeclaredConstructors();
         check.due("constructors", 1, () -> constructors.length);
         check.due("the constructor", "public Letterforge()", () -> constructors[0].toString());
