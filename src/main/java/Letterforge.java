@@ -38,15 +38,15 @@ public final class Letterforge {
     private final Dialect[] dialects = new Dialect[DIALECTS];
     private final Design[] designs = new Design[MOST_DESIGNS];
     private int designCount = 0;
-    private final Ways ways = new Ways();
-    private final Shapes shapes = new Shapes(ways);
+    private final Shapes shapes = new Shapes();
     private final Ballot ballot = new Ballot();
 
     // Rows that are used anew by each call, as no call may make many of its own.
     private final Spellings spellings = new Spellings();
     private final Spellings otherSpellings = new Spellings();
+    private final Ways ways = new Ways();
     private final Reader reader = new Reader();
-    private final Primer quick = new Primer();
+    private final Primer primers = new Primer();
     private final Keyboard keyboard = new Keyboard();
 
     public Letterforge() {
@@ -257,23 +257,23 @@ public final class Letterforge {
         requireDesign(design);
         requirePlace(place);
         prepareQuickPrimer(designs[design]);
-        return place < quick.length ? quick.order[place] : NONE;
+        return place < primers.length ? primers.order[place] : NONE;
     }
 
     public int cost(int design) throws IndexOutOfBoundsException {
         requireDesign(design);
         prepareQuickPrimer(designs[design]);
-        return quick.costOfOrder();
+        return primers.costOfOrder();
     }
 
     public int leastCost(int design) throws IndexOutOfBoundsException, IllegalStateException {
         requireDesign(design);
         spellAll(designs[design]);
-        quick.take(spellings, words.weights);
-        if (Long.bitCount(quick.inUse) > MOST_PRIMED) {
+        primers.take(spellings, words.weights);
+        if (Long.bitCount(primers.inUse) > MOST_PRIMED) {
             throw new IllegalStateException("more than 10 signs are in use");
         }
-        return quick.leastOfOrders();
+        return primers.leastOfOrders();
     }
 
     // ---- keys
@@ -448,8 +448,8 @@ public final class Letterforge {
 
     private void prepareQuickPrimer(Design design) {
         spellAll(design);
-        quick.take(spellings, words.weights);
-        quick.putInOrder();
+        primers.take(spellings, words.weights);
+        primers.putInOrder();
     }
 
     private int scoreOf(int group, Design design) {
@@ -841,13 +841,12 @@ public final class Letterforge {
 
     /** The shapes of the signs. */
     private static final class Shapes {
-        private final Ways ways;
+        private final Ways ways = new Ways();
         private final int[] numbers = new int[SIGNS];
         private final int[][] strokes = new int[SIGNS][MOST_STROKES];
         private final int[] lengths = new int[SIGNS];
 
-        Shapes(Ways ways) {
-            this.ways = ways;
+        Shapes() {
             for (int sign = 0; sign < SIGNS; sign++) {
                 put(sign, 111 + 100 * (sign / 16) + 10 * (sign / 4 % 4) + sign % 4);
             }

@@ -51,6 +51,7 @@ public final class PromiseTest {
         reform();
         lost();
         nothingAtAll();
+        asMuchAsThereIs();
         check.end();
     }
 
@@ -134,6 +135,8 @@ public final class PromiseTest {
             int d = dialect;
             due("first change of " + d, 1, () -> x.change(d, ONSET, 0, 0, false));
         }
+        due("the first word", 0, () -> addWord(1, 0));
+        dueNoDesign(0);
         due("the first design", 0, () -> x.design(LETTERS, NONE));
         dueNoDesign(1);
         dueNoDesign(-1);
@@ -654,8 +657,8 @@ public final class PromiseTest {
     private void primer() {
         begin("primer");
         addToneless(LETTERS, NONE);
-        duePrimer(0);
         due("cost without words", 0, () -> x.cost(0));
+        duePrimer(0);
         addWord(1, code(8, 0, 8, 0));
         addWord(10, code(0, 1, 8, 0));
         addWord(10, code(1, 1, 8, 0));
@@ -956,5 +959,44 @@ public final class PromiseTest {
         due("lost", 0, () -> x.lost(0, 0));
         due("votes", 0, () -> x.votes(0));
         due("elected", NONE, () -> x.elected());
+    }
+
+    /** 20 words of 16 signs with the greatest weight; every call as the first one of its kind. */
+    private void asMuchAsThereIs() {
+        begin("as much as there is");
+        for (int word = 0; word < 20; word++) {
+            addWord(999, 0, 0, 0, 0);
+        }
+        for (int design = 0; design < 5; design++) {
+            x.design(design < 4 ? LETTERS : PAIRS, design - 1 < 3 ? design - 1 : NONE);
+        }
+        for (int change = 0; change < 6; change++) {
+            x.change(2, TONE, 0, 0, false);
+        }
+        for (int group = 0; group < 4; group++) {
+            x.group(group, 999, 999, 0);
+        }
+        int all = 20 * 999;
+        due("lost", 0, () -> x.lost(0, 4));
+        due("cost", all * 3, () -> x.cost(3));
+        due("cost of pairs", all * 3, () -> x.cost(4));
+        due("leastCost", all * 3, () -> x.leastCost(3));
+        due("doubts", 190, () -> x.doubts(0));
+        due("load", all - 999, () -> x.load(4));
+        due("loadIf", all - 999, () -> x.loadIf(4, 0));
+        due("fit", all, () -> x.fit(0, 2));
+        due("errors", all * 16, () -> x.errors(0, 4));
+        due("travel", all * 4 * (8 + 36 + 44), () -> x.travel(0));
+        due("exchange", NONE, () -> x.exchange(0));
+        // Of 16 signs 4 are taken out, and 4 are made a sign that letters do not have.
+        due("reform", all * 8, () -> x.reform(3, 4));
+        due("reform back", all * 8, () -> x.reform(4, 3));
+        due("score", (all - 999) * 9 + all * 48 / 100 * 9, () -> x.score(0, 0));
+        due("score of pairs", (all - 999) * 9 + all * 36 / 100 * 9, () -> x.score(3, 4));
+        due("votes", 4 * 999, () -> x.votes(4));
+        due("elected", 4, () -> x.elected());
+        dueReadings("the last word", 3, 19, 1);
+        dueReadings("the last word by pairs", 4, 19, 1);
+        dueSpelling(3, 19, 0, 8, 44, 0, 0, 8, 44, 0, 0, 8, 44, 0, 0, 8, 44, 0);
     }
 }
