@@ -1124,10 +1124,11 @@ public final class Letterforge {
             int all = weightRead(inUse);
             least[0] = all;
             for (int set = 1; set < 1 << signs; set++) {
-                int best = Integer.MAX_VALUE;
+                int best = NONE;
                 for (int sign = 0; sign < signs; sign++) {
                     if ((set >> sign & 1) != 0) {
-                        best = Math.min(best, least[set ^ 1 << sign]);
+                        int ahead = least[set ^ 1 << sign];
+                        best = best == NONE ? ahead : Math.min(best, ahead);
                     }
                 }
                 least[set] = best + all - weightRead(signsIn(set, signs));

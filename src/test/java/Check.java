@@ -4,6 +4,8 @@ final class Check {
         Object answer();
     }
 
+    private static final int MOST_TOLD = 50;
+
     private final String test;
     private int checks = 0;
     private int wrong = 0;
@@ -27,7 +29,9 @@ final class Check {
         String got = told(call);
         if (!got.equals(String.valueOf(want))) {
             wrong++;
-            System.out.println(test + ": " + what + " answered " + got + ", due is " + want);
+            if (wrong <= MOST_TOLD) {
+                System.out.println(test + ": " + what + " answered " + got + ", due is " + want);
+            }
         }
     }
 

@@ -1,17 +1,8 @@
 /** Each promise of the document by examples that were worked out by hand: ordinary ones, edges, and wrong inputs. */
-public final class PromiseTest {
-    private static final String INDEX = "throws.IndexOutOfBoundsException";
-    private static final String ARGUMENT = "throws.IllegalArgumentException";
-    private static final String STATE = "throws.IllegalStateException";
-    private static final int NONE = Letterforge.NONE;
-    private static final int LETTERS = Letterforge.LETTERS, PAIRS = Letterforge.PAIRS;
-    private static final int ONSET = Letterforge.ONSET, VOWEL = Letterforge.VOWEL;
-    private static final int CODA = Letterforge.CODA, TONE = Letterforge.TONE;
-    private static final int LOWEST = Integer.MIN_VALUE, HIGHEST = Integer.MAX_VALUE;
-
-    private final Check check = new Check("PromiseTest");
-    private String promise = "";
-    private Letterforge x;
+public final class PromiseTest extends Bench {
+    private PromiseTest() {
+        super("PromiseTest");
+    }
 
     public static void main(String[] args) {
         new PromiseTest().test();
@@ -53,48 +44,6 @@ public final class PromiseTest {
         nothingAtAll();
         asMuchAsThereIs();
         check.end();
-    }
-
-    private void begin(String name) {
-        promise = name;
-        x = new Letterforge();
-    }
-
-    private void due(String what, Object want, Check.Call call) {
-        check.due(promise + ": " + what, want, call);
-    }
-
-    /** The code of a syllable; 8 is no onset or no coda. */
-    private static int code(int onset, int vowel, int coda, int tone) {
-        return 108 * onset + 27 * vowel + 3 * coda + tone;
-    }
-
-    private static int vowel(int vowel) {
-        return code(8, vowel, 8, 0);
-    }
-
-    private int addWord(int weight, int... codes) {
-        for (int code : codes) {
-            x.syllable(code);
-        }
-        return x.word(weight);
-    }
-
-    private int addToneless(int kind, int base) {
-        int design = x.design(kind, base);
-        for (int tone = 0; tone < 3; tone++) {
-            x.mark(design, tone, false);
-        }
-        return design;
-    }
-
-    private void dueSpelling(int design, int word, int... signs) {
-        for (int place = 0; place < signs.length; place++) {
-            int at = place;
-            due("sign " + place + " of word " + word + " in design " + design, signs[place],
-                    () -> x.spelled(design, word, at));
-        }
-        due("behind the last sign", NONE, () -> x.spelled(design, word, signs.length));
     }
 
     /** Each call that needs a design, with a wrong number of it. */
@@ -445,11 +394,6 @@ public final class PromiseTest {
         due("tone -1", INDEX, () -> x.loadIf(0, -1));
     }
 
-    private void dueReadings(String what, int design, int word, long want) {
-        due(what, want, () -> x.readings(design, word));
-        due(what + ", anew", want, () -> x.readingsAnew(design, word));
-    }
-
     // Promises 13 and 14
     private void readings() {
         begin("readings");
@@ -486,13 +430,9 @@ public final class PromiseTest {
         addToneless(LETTERS, NONE);
         addToneless(PAIRS, NONE);
         x.design(PAIRS, NONE);
-        for (int unit = 0; unit < 47; unit++) {
-            if (unit < 12 || unit > 43) {
-                x.assign(0, unit, 7, true);
-            }
-            x.assign(1, unit, 7, true);
-            x.assign(2, unit, 7, true);
-        }
+        giveAll(0, LETTERS, 7);
+        giveAll(1, PAIRS, 7);
+        giveAll(2, PAIRS, 7);
         dueReadings("4 vowels, 3 tones", 0, 0, 12);
         dueReadings("96 with an onset, 96 with a coda, 144 of two", 0, 1, 336);
         dueReadings("36 pairs, 3 tones", 1, 0, 108);
@@ -585,20 +525,12 @@ public final class PromiseTest {
         due("other -1", INDEX, () -> x.apart(0, -1));
     }
 
-    private void giveAll(int design, int sign) {
-        for (int unit = 0; unit < 47; unit++) {
-            if (unit < 12 || unit > 43) {
-                x.assign(design, unit, sign, true);
-            }
-        }
-    }
-
     // Promise 18
     private void clear() {
         begin("clear");
         x.design(LETTERS, NONE);
         due("at first", 1, () -> x.clear(0));
-        giveAll(0, 20);
+        giveAll(0, LETTERS, 20);
         due("one sign", NONE, () -> x.clear(0));
         x.shape(20, 1111);
         x.shape(21, 2222);
@@ -619,7 +551,7 @@ public final class PromiseTest {
     private void errors() {
         begin("errors");
         x.design(LETTERS, NONE);
-        giveAll(0, 20);
+        giveAll(0, LETTERS, 20);
         // Spelled by 20, 21, 20: the vowel has another sign than the consonants.
         x.mark(0, 0, false);
         x.assign(0, 8, 21, true);
@@ -643,14 +575,6 @@ public final class PromiseTest {
         due("far -1", ARGUMENT, () -> x.errors(0, -1));
         due("far 5", ARGUMENT, () -> x.errors(0, 5));
         due("no design, far 5", INDEX, () -> x.errors(1, 5));
-    }
-
-    private void duePrimer(int design, int... signs) {
-        for (int place = 0; place < signs.length; place++) {
-            int at = place;
-            due("place " + at, signs[at], () -> x.primer(design, at));
-        }
-        due("behind the last one", NONE, () -> x.primer(design, signs.length));
     }
 
     // Promises 20 and 21
