@@ -1,20 +1,24 @@
 import java.io.IOException;
+import java.lang.reflect.Field;
+import java.lang.reflect.Modifier;
 import java.nio.file.Files;
 import java.nio.file.Path;
+import java.util.ArrayList;
+import java.util.Arrays;
 import java.util.List;
 import java.util.Set;
 import java.util.TreeSet;
 import java.util.regex.Matcher;
 import java.util.regex.Pattern;
 
-/** The rules of ../shared/LANGUAGE.md, as far as the text of the program shows them; run from the project's root. */
+/** The rules of ../shared/LANGUAGE.md, as far as the text and the fields of the program show them; run from the project's root. */
 public final class LanguageTest {
     private static final Path PROGRAM = Path.of("src/main/java/Letterforge.java");
     private static final Set<String> LIBRARY = Set.of("Math.min", "Math.max", "Math.abs", "Long.bitCount",
             "Integer.bitCount", "Arrays.fill", "Arrays.copyOf", "Arrays.copyOfRange", "System.arraycopy");
     private static final Set<String> EXCEPTIONS = Set.of("IllegalStateException", "IllegalArgumentException",
             "IndexOutOfBoundsException");
-    private static final int LONGEST_METHOD = 60, MOST_PARAMETERS = 7, MOST_CLASSES = 12;
+    private static final int LONGEST_METHOD = 60, MOST_PARAMETERS = 7, MOST_CLASSES = 12, MOST_FIELDS = 20;
 
     private static Set<String> found(String text, String pattern) {
         Set<String> all = new TreeSet<>();
@@ -41,6 +45,30 @@ public final class LanguageTest {
             }
         }
         return longest;
+    }
+
+    /** Numbers and truth values, own classes, arrays of both, and of two dimensions those of numbers alone. */
+    private static boolean isAllowed(Class<?> type) {
+        Class<?> element = type.isArray() ? type.getComponentType() : type;
+        if (element.isArray()) {
+            Class<?> inner = element.getComponentType();
+            return inner.isPrimitive() && inner != boolean.class;
+        }
+        return element.isPrimitive() || element.getEnclosingClass() == Letterforge.class;
+    }
+
+    private static void checkFields(Check check) {
+        List<Class<?>> classes = new ArrayList<>(Arrays.asList(Letterforge.class.getDeclaredClasses()));
+        classes.add(Letterforge.class);
+        for (Class<?> type : classes) {
+            int fields = 0;
+            for (Field field : type.getDeclaredFields()) {
+                check.due(field + " has a type of rule 3", true, () -> isAllowed(field.getType()));
+                fields += Modifier.isStatic(field.getModifiers()) ? 0 : 1;
+            }
+            int count = fields;
+            check.due("some twenty fields in " + type, true, () -> count <= MOST_FIELDS);
+        }
     }
 
     public static void main(String[] args) throws IOException {
@@ -74,6 +102,7 @@ public final class LanguageTest {
             check.due("not more than seven of " + parameters, true,
                     () -> parameters.split(",").length <= MOST_PARAMETERS);
         }
+        checkFields(check);
         check.end();
     }
 }
