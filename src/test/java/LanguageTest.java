@@ -11,7 +11,10 @@ import java.util.TreeSet;
 import java.util.regex.Matcher;
 import java.util.regex.Pattern;
 
-/** The rules of ../shared/LANGUAGE.md, as far as the text and the fields of the program show them; run from the project's root. */
+/**
+ * The rules of ../shared/LANGUAGE.md, as far as the text and the fields of the program show them;
+ * run from the project's root.
+ */
 public final class LanguageTest {
     private static final Path PROGRAM = Path.of("src/main/java/Letterforge.java");
     private static final Set<String> LIBRARY = Set.of("Math.min", "Math.max", "Math.abs", "Long.bitCount",
